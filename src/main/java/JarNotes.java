@@ -566,7 +566,6 @@ public final class JarNotes {
 
         boolean tells(Cellar into) {
             at = 0;
-            fault = 0;
             into.clear();
             if (!passes('k') || !numbers(0, MOST_REACH)) {
                 return false;
@@ -842,7 +841,8 @@ public final class JarNotes {
         }
 
         private int struckFrom(int note, int place) {
-            return isNote(note) && within(place, 0, jars - 1) ? answering[note] & near[place] : 0;
+            boolean heard = within(note, 0, NOTES - 1) && within(place, 0, jars - 1);
+            return heard ? answering[note] & near[place] : 0;
         }
 
         int broken(int note, int place, int whole) {
@@ -892,7 +892,7 @@ public final class JarNotes {
 
         void findWorst(Cellar of) {
             echo.tune(of);
-            howMany = mostBroken(of.those(WHOLE), JARS + 1);
+            howMany = mostBroken(of.those(WHOLE), JARS);
             which = loudest;
         }
 
@@ -927,9 +927,9 @@ public final class JarNotes {
         }
 
         void findChange(Cellar of) {
-            findWorst(of);
-            int fewest = howMany;
+            echo.tune(of);
             int whole = of.those(WHOLE);
+            int fewest = mostBroken(whole, JARS);
             which = NONE;
             howMany = NONE;
             guess.become(of);

@@ -1,4 +1,4 @@
-/** Promises 18 to 33: what is foretold, and images. Each answer was worked out by hand. */
+/** Promises 18 to 33: what is foretold, and images. The answers were worked out by hand, but as told. */
 public final class ForetoldTest {
     private static final int MAX = Integer.MAX_VALUE;
     private static final int MIN = Integer.MIN_VALUE;
@@ -102,6 +102,11 @@ public final class ForetoldTest {
             Due.is("guard BAD", x.guard(b[0], b[1], b[2], b[3]), Due.BAD);
         }
         Due.is("k 8", x.guard(0, 0, 8, 0), 0);
+        JarNotes eight = Due.cellarOf("k8;g0,9;g0,9;g0,9;g0,9;g0,9;g0,9;g0,9;g0,9;");
+        guard(eight, 0, 8, 255);
+        guard(eight, 1, 7, 127);
+        guard(eight, 7, 1, 1);
+        guard(eight, 8, 0, 0);
         Due.is("no cellar", new JarNotes().guard(0, 0, 0, 0), Due.BAD);
     }
 
@@ -140,6 +145,11 @@ public final class ForetoldTest {
         JarNotes thick = Due.cellarOf("k8;h0,9;");
         Due.is("none breaks", thick.tuned(0, 1), 0);
         Due.is("the least note", thick.tuned(0, 0), 0);
+        // found by a search, and by Plain too: whatever its note is, all eight go
+        JarNotes all = Due.cellarOf("k8;c3,9;s5,9;s5,9;c0,9;c4,9;t11,9;c3,9;t2,9;");
+        all.tuned(0, 0);
+        Due.is("all break: the least note", all.tuned(7, 0), 0);
+        Due.is("all break: how many", all.tuned(7, 1), 8);
         Due.is("tuned(3)", x.tuned(3, 0), Due.BAD);
         Due.is("tuned(-1)", x.tuned(-1, 0), Due.BAD);
         Due.is("what 2", x.tuned(0, 2), Due.BAD);
