@@ -150,6 +150,10 @@ public final class ForetoldTest {
         all.tuned(0, 0);
         Due.is("all break: the least note", all.tuned(7, 0), 0);
         Due.is("all break: how many", all.tuned(7, 1), 8);
+        // the other three go one by one; a crock of any note goes with one of them at least
+        JarNotes bound = Due.cellarOf("k5;c11,9;t0,9;c9,9;g10,9;");
+        Due.is("no note keeps it apart: the least", bound.tuned(0, 0), 0);
+        Due.is("two break", bound.tuned(0, 1), 2);
         Due.is("tuned(3)", x.tuned(3, 0), Due.BAD);
         Due.is("tuned(-1)", x.tuned(-1, 0), Due.BAD);
         Due.is("what 2", x.tuned(0, 2), Due.BAD);
