@@ -10,11 +10,11 @@ public final class RoomTest {
         dearest(x);
         long thread = Thread.currentThread().getId();
         long before = room.getThreadAllocatedBytes(thread);
-        for (int n = 0; n < 28; n++) {
+        for (int n = 0; n < 24; n++) {
             dearest(x);
         }
         long used = room.getThreadAllocatedBytes(thread) - before;
-        System.out.println("bytes made by 28 rounds of 18 calls: " + used);
+        System.out.println("bytes made by 24 rounds of 18 calls: " + used);
         Due.holds("the calls use again what there is", used < 100000);
         Due.end("RoomTest");
     }

@@ -1,8 +1,5 @@
 /** Promises 1 to 5 and 39: a new object, rows, and what was found of them. */
 public final class RowsTest {
-    // One jar of each note 0 to 7, so that a song of one item tells what the item is.
-    private static final String SCALE = "k0;g0,9;g1,9;g2,9;g3,9;g4,9;g5,9;g6,9;g7,9;";
-
     public static void main(String[] args) {
         newObject();
         rowsAreLaid();
@@ -11,6 +8,7 @@ public final class RowsTest {
         copiesAreRefused();
         rowsAreDropped();
         statusTellsTheLatest();
+        theLastCallIsAnswered();
         Due.end("RowsTest");
     }
 
@@ -32,7 +30,7 @@ public final class RowsTest {
     }
 
     private static void rowsAreLaid() {
-        JarNotes x = Due.cellarOf(SCALE);
+        JarNotes x = Due.cellarOf(Due.SCALE);
         Due.is("row(0,0,0)", x.row(0, 0, 0), 0);
         Due.is("row(7,2,40)", x.row(7, 2, 40), 40);
         Due.is("row(3,1,1)", x.row(3, 1, 1), 1);
@@ -60,7 +58,7 @@ public final class RowsTest {
     }
 
     private static void itemsAreSet() {
-        JarNotes x = Due.cellarOf(SCALE);
+        JarNotes x = Due.cellarOf(Due.SCALE);
         x.row(0, 0, 2);
         x.row(1, 1, 2);
         x.row(2, 2, 2);
@@ -90,31 +88,25 @@ public final class RowsTest {
     }
 
     private static void itemsAreCopied() {
-        JarNotes x = Due.cellarOf(SCALE);
+        JarNotes x = Due.cellarOf(Due.SCALE);
         Due.fill(x, 0, 0, 1, 2, 3, 4, 5);
         Due.is("copy upwards", x.copy(0, 0, 0, 1, 4), 4);
         int[] up = {1, 1, 2, 3, 4};
-        itemsAre(x, 0, up);
+        Due.items(x, 0, up);
         Due.fill(x, 0, 0, 1, 2, 3, 4, 5);
         Due.is("copy downwards", x.copy(0, 2, 0, 0, 3), 3);
         int[] down = {3, 4, 5, 4, 5};
-        itemsAre(x, 0, down);
+        Due.items(x, 0, down);
         x.row(1, 0, 3);
         Due.is("copy to another", x.copy(0, 1, 1, 2, 1), 1);
         int[] other = {0, 0, 4};
-        itemsAre(x, 1, other);
-        itemsAre(x, 0, down);
+        Due.items(x, 1, other);
+        Due.items(x, 0, down);
         Due.is("copy none at the ends", x.copy(0, 5, 1, 3, 0), 0);
     }
 
-    private static void itemsAre(JarNotes x, int row, int[] items) {
-        for (int i = 0; i < items.length; i++) {
-            Due.is("item " + i, x.song(0, row, i, 1), 1 << items[i]);
-        }
-    }
-
     private static void copiesAreRefused() {
-        JarNotes x = Due.cellarOf(SCALE);
+        JarNotes x = Due.cellarOf(Due.SCALE);
         Due.fill(x, 0, 0, 1, 2, 3);
         Due.fill(x, 1, 0, 4, 5);
         x.row(2, 1, 3);
@@ -137,8 +129,8 @@ public final class RowsTest {
         for (int[] b : beyond) {
             Due.is("copy(0, " + b[0] + ", 1, " + b[1] + ", " + b[2] + ")", x.copy(0, b[0], 1, b[1], b[2]), Due.PLACE);
         }
-        itemsAre(x, 0, new int[] {1, 2, 3});
-        itemsAre(x, 1, new int[] {4, 5});
+        Due.items(x, 0, new int[] {1, 2, 3});
+        Due.items(x, 1, new int[] {4, 5});
     }
 
     private static void rowsAreDropped() {
@@ -210,5 +202,19 @@ public final class RowsTest {
         Due.is("reaches: PLACE is 2", x.status(), 2);
         x.reaches(0, 0, 0, 1);
         Due.is("reaches: none", x.status(), 0);
+    }
+
+    // "An object is used for at most 512 calls after it has been made"
+    private static void theLastCallIsAnswered() {
+        JarNotes x = new JarNotes();
+        Due.read(x, "k0;g0,9;");
+        int calls = 9;
+        while (calls < 511) {
+            x.open(0);
+            x.undo();
+            calls += 2;
+        }
+        Due.is("the 511 calls", calls, 511);
+        Due.is("the 512th call", x.sneeze(0, 0), 1);
     }
 }
